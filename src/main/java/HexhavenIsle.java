@@ -945,7 +945,8 @@ public final class HexhavenIsle {
         }
 
         int farEnd(int side, int corner) {
-            return corner == endOf(side, 0) ? endOf(side, 1) : endOf(side, 0);
+            int first = ends.get(2 * side);
+            return corner == first ? ends.get(2 * side + 1) : first;
         }
     }
 

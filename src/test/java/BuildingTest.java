@@ -10,6 +10,7 @@ public final class BuildingTest {
         town();
         housesRunOut();
         townsRunOut();
+        townsOfTheOtherRunOut();
         waysRoundALand();
         titleOfTheWay();
         titleStaysWhenEven();
@@ -17,6 +18,8 @@ public final class BuildingTest {
         mayRoad();
         at();
         adviceAtTheBeginning();
+        adviceByTens();
+        adviceKnowsEveryHouse();
         adviceInActions();
         Due.finish();
     }
@@ -222,8 +225,8 @@ public final class BuildingTest {
         Due.due(true, x::isTrue);
     }
 
-    /** An island that feeds the player 0 alone: by 6 all for a house, by 5 all for a road, by 4 ore. */
-    private static HexhavenIsle rich() {
+    /** An island that feeds one player alone: by 6 all for a house, by 5 all for a road, by 4 ore. */
+    private static HexhavenIsle rich(int player) {
         HexhavenIsle x = Due.full(12);
         x.land(1, 1, 'w', 6);
         x.land(1, 0, 'b', 6);
@@ -233,11 +236,20 @@ public final class BuildingTest {
         x.land(2, 2, 'w', 5);
         x.land(0, 1, 'o', 4);
         x.land(1, 4, 'o', 4);
-        Due.beginTwo(x, 10);
+        if (player == 0) {
+            Due.beginTwo(x, 10);
+        } else {
+            x.begin(2, 10);
+            Due.put(x, 3, 1, 0);
+            Due.put(x, 1, 1, 0);
+            Due.put(x, 1, 3, 0);
+            Due.put(x, 3, 3, 0);
+            Due.pass(x, 3);
+        }
         return x;
     }
 
-    /** A turn of the player 0 by that sum, with the roads and houses told, and one of the player 1 without. */
+    /** A turn of the player who is fed by that sum, with what is told to be built, and one of the other without. */
     private static void turn(HexhavenIsle x, int sum, String... what) {
         Due.roll(x, sum);
         for (String one : what) {
@@ -257,7 +269,7 @@ public final class BuildingTest {
     }
 
     private static void housesRunOut() {
-        HexhavenIsle x = rich();
+        HexhavenIsle x = rich(0);
         turn(x, 5, "r111");
         turn(x, 6, "h112");
         turn(x, 5, "r112", "r113");
@@ -291,9 +303,17 @@ public final class BuildingTest {
         Due.due(true, x::isTrue);
     }
 
-    /** Four towns and a house are nine points: the fifth town fails for want of towns, not of goods. */
     private static void townsRunOut() {
-        HexhavenIsle x = rich();
+        townsRunOutFor(0);
+    }
+
+    private static void townsOfTheOtherRunOut() {
+        townsRunOutFor(1);
+    }
+
+    /** Four towns and a house are nine points: the fifth town fails for want of towns, not of goods. */
+    private static void townsRunOutFor(int player) {
+        HexhavenIsle x = rich(player);
         turn(x, 5, "r111");
         turn(x, 6, "h112");
         turn(x, 5, "r112", "r113");
@@ -304,17 +324,18 @@ public final class BuildingTest {
         townWhenRich(x, 1, 1, 2);
         townWhenRich(x, 1, 1, 4);
         townWhenRich(x, 1, 3, 2);
-        Due.due(9, () -> x.points(0, true));
+        Due.due(9, () -> x.points(player, true));
         gatherForATown(x);
         Due.roll(x, 3);
-        Due.due(true, () -> x.has(0, 'g') >= 2 && x.has(0, 'o') >= 3);
-        Due.due(0, () -> x.at(1, 3, 0));
+        Due.due(true, () -> x.has(player, 'g') >= 2 && x.has(player, 'o') >= 3);
+        Due.due(player, () -> x.at(1, 3, 0));
         Due.refused(x, 2, Due.NOT_SO, () -> x.town(1, 3, 0));
         Due.due(true, x::isTrue);
     }
 
     private static void gatherForATown(HexhavenIsle x) {
-        for (int i = 0; i < 9 && (x.has(0, 'g') < 2 || x.has(0, 'o') < 3); i++) {
+        int player = x.turn();
+        for (int i = 0; i < 9 && (x.has(player, 'g') < 2 || x.has(player, 'o') < 3); i++) {
             turn(x, i % 2 == 0 ? 6 : 4);
         }
     }
@@ -484,6 +505,45 @@ public final class BuildingTest {
         Due.due(422, () -> x.advise('n'));
         Due.put(x, 4, 3, 0);
         Due.due(0, () -> x.advise('n'));
+    }
+
+    /** 14 pips of one good and 4 of two are worth as much, so that the first one is advised. */
+    private static void adviceByTens() {
+        HexhavenIsle x = new HexhavenIsle();
+        x.land(0, 0, 'w', 6);
+        x.land(1, 0, 'w', 8);
+        x.land(0, 1, 'w', 5);
+        x.land(3, 3, 'w', 2);
+        x.land(4, 3, 'b', 4);
+        x.begin(2, 3);
+        Due.due(2, () -> x.advise('v'));
+        Due.due(2, () -> x.advise('n'));
+        HexhavenIsle y = new HexhavenIsle();
+        y.land(0, 0, 'w', 2);
+        y.land(1, 0, 'b', 4);
+        y.land(3, 3, 'w', 6);
+        y.land(4, 3, 'w', 8);
+        y.land(4, 4, 'w', 5);
+        y.begin(2, 3);
+        Due.due(1, () -> y.advise('v'));
+        Due.due(1, () -> y.advise('n'));
+        Due.due(332, () -> y.advise('p'));
+    }
+
+    private static void adviceKnowsEveryHouse() {
+        HexhavenIsle x = new HexhavenIsle();
+        x.land(0, 0, 'w', 6);
+        x.land(2, 2, 'w', 6);
+        x.land(4, 4, 'b', 2);
+        x.begin(2, 3);
+        // the very first corner and the very last place
+        Due.put(x, 0, 0, 0);
+        Due.put(x, 4, 4, 3);
+        Due.due(2, () -> x.advise('p'));
+        Due.due(2, () -> x.advise('n'));
+        Due.put(x, 2, 2, 3);
+        Due.due(332, () -> x.advise('n'));
+        Due.due(2, () -> x.advise('v'));
     }
 
     private static void adviceInActions() {

@@ -160,6 +160,14 @@ public final class TurnTest {
         Due.due(true, x::isTrue);
         Due.due(Due.BAD, () -> x.lose(1, -1));
         Due.due(Due.NOT_NOW, () -> x.lose(1, 0));
+        // in any order
+        HexhavenIsle y = Due.two(6, 10);
+        Due.round(y, 2, 6);
+        Due.roll(y, 7);
+        Due.due(1, () -> y.lose(1, 10033));
+        Due.due('l', y::phase);
+        Due.due(0, () -> y.lose(0, 34000));
+        Due.due('t', y::phase);
     }
 
     private static void loseNotAll() {
