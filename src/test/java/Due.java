@@ -26,7 +26,7 @@ final class Due {
         if (!want.equals(got)) {
             wrong++;
             for (StackTraceElement at : new Throwable().getStackTrace()) {
-                if (!at.getClassName().equals("Due")) {
+                if (!at.getClassName().equals("Due") && !at.getClassName().equals("Twin")) {
                     System.out.println(at + " answered " + got + ", due is " + want);
                     break;
                 }
