@@ -27,11 +27,27 @@ final class Due {
             wrong++;
             for (StackTraceElement at : new Throwable().getStackTrace()) {
                 if (!at.getClassName().equals("Due") && !at.getClassName().equals("Twin")) {
-                    System.out.println(at + " answered " + got + ", due is " + want);
+                    int from = sameAhead(got.toString(), want.toString());
+                    System.out.println(at + " answered " + part(got, from) + ", due is " + part(want, from));
                     break;
                 }
             }
         }
+    }
+
+    /** Of long answers, where they begin to be unlike. */
+    private static int sameAhead(String one, String other) {
+        int same = 0;
+        while (same < one.length() && same < other.length() && one.charAt(same) == other.charAt(same)) {
+            same++;
+        }
+        return one.length() > 80 ? Math.max(0, same - 30) : 0;
+    }
+
+    private static String part(Object answer, int from) {
+        String told = answer.toString();
+        int begin = Math.min(from, told.length());
+        return (begin > 0 ? ".." : "") + told.substring(begin, Math.min(told.length(), begin + 80));
     }
 
     static void finish() {

@@ -4,6 +4,8 @@ import java.util.function.Supplier;
 
 /** Objects in each of the phases, with much in them that a refused call could spoil, and islands of plenty. */
 final class Stages {
+    private static final String GOODS = "wbsgo";
+
     private Stages() {
     }
 
@@ -161,57 +163,69 @@ final class Stages {
 
     // ---- hands as they are wanted
 
-    /** By offers that the other one of two players takes, whose turn it is gets just those goods. */
+    /** By offers that the other one of two players takes, whose turn it is gets just those goods, one at least. */
     static void hand(HexhavenIsle x, int wanted) {
         int player = x.turn();
-        for (int give = 1; give <= 10000 && held(x, player) != wanted; give *= 10) {
-            for (int back = 1; back <= 10000 && held(x, player) != wanted; back *= 10) {
-                // all but the last exchange, of one good for one other good
-                tradeTo(x, wanted - give + back, wanted, give, back);
+        for (int round = 0; round < 20 && held(x, player) != wanted; round++) {
+            int given = 0;
+            int taken = 0;
+            for (char good : GOODS.toCharArray()) {
+                int more = digit(wanted, good) - x.has(player, good);
+                given += more < 0 ? Math.min(9, -more) * one(good) : 0;
+                taken += more > 0 ? more * one(good) : 0;
+            }
+            if (given > 0 && taken > 0) {
+                exchange(x, given, taken);
+            } else {
+                unbalance(x, wanted);
             }
         }
         Due.due(wanted, () -> held(x, player));
     }
 
-    private static void tradeTo(HexhavenIsle x, int between, int wanted, int give, int back) {
+    /** Nothing is too much, or nothing is missing: of one good one too many is given for one too many of another. */
+    private static void unbalance(HexhavenIsle x, int wanted) {
         int player = x.turn();
-        int other = 1 - player;
-        if (give == back || wanted / give % 10 == 0 || wanted / back % 10 == 9) {
-            return;
-        }
-        int given = 0;
-        int got = 0;
-        for (int one = 1; one <= 10000; one *= 10) {
-            char good = good(one);
-            int more = between / one % 10 - x.has(player, good);
-            if (more < -9 || more > x.has(other, good)) {
+        for (int i = 0; i < 25; i++) {
+            char give = GOODS.charAt(i / 5);
+            char take = GOODS.charAt(i % 5);
+            int given = Math.max(1, x.has(player, give) - digit(wanted, give) + 1);
+            int taken = Math.max(1, digit(wanted, take) - x.has(player, take) + 1);
+            boolean isHad = x.has(player, give) >= given && x.has(1 - player, take) >= taken;
+            if (give != take && isHad && given <= 9 && taken <= 9) {
+                exchange(x, given * one(give), taken * one(take));
                 return;
             }
-            given += more < 0 ? -more * one : 0;
-            got += more > 0 ? more * one : 0;
         }
-        if (given > 0 && got > 0) {
-            x.offer(given, got);
-            x.take(other);
-            x.offer(back, give);
-            x.take(other);
-        }
+    }
+
+    private static void exchange(HexhavenIsle x, int give, int take) {
+        x.offer(give, take);
+        x.take(1 - x.turn());
     }
 
     /** The goods of a player as five digits, -1 if those do not tell them. */
     static int held(HexhavenIsle x, int player) {
         int told = 0;
-        for (int one = 1; one <= 10000; one *= 10) {
-            int has = x.has(player, good(one));
-            if (has > 9) {
+        for (char good : GOODS.toCharArray()) {
+            if (x.has(player, good) > 9) {
                 return -1;
             }
-            told += has * one;
+            told += x.has(player, good) * one(good);
         }
         return told;
     }
 
-    private static char good(int one) {
-        return one == 1 ? 'o' : one == 10 ? 'g' : one == 100 ? 's' : one == 1000 ? 'b' : 'w';
+    /** One of a good, as five digits. */
+    static int one(char good) {
+        int one = 1;
+        for (int i = GOODS.indexOf(good); i < 4; i++) {
+            one *= 10;
+        }
+        return one;
+    }
+
+    static int digit(int goods, char good) {
+        return goods / one(good) % 10;
     }
 }
