@@ -189,10 +189,10 @@ final class Stages {
         for (int i = 0; i < 25; i++) {
             char give = GOODS.charAt(i / 5);
             char take = GOODS.charAt(i % 5);
-            int given = Math.max(1, x.has(player, give) - digit(wanted, give) + 1);
+            int given = Math.min(9, Math.max(1, x.has(player, give) - digit(wanted, give) + 1));
             int taken = Math.max(1, digit(wanted, take) - x.has(player, take) + 1);
             boolean isHad = x.has(player, give) >= given && x.has(1 - player, take) >= taken;
-            if (give != take && isHad && given <= 9 && taken <= 9) {
+            if (give != take && isHad && taken <= 9) {
                 exchange(x, given * one(give), taken * one(take));
                 return;
             }
