@@ -6,6 +6,8 @@ public final class WinTest {
     private static final String GOODS = "wbsgo";
 
     public static void main(String[] args) {
+        waysOfTheBeginning();
+        seenPoints();
         waysFromFourToSix();
         waysThatAreCut();
         wayOfTwoOthers();
@@ -21,6 +23,43 @@ public final class WinTest {
     }
 
     // ---- the longest way
+
+    /** The roads of both houses may meet each other. */
+    private static void waysOfTheBeginning() {
+        HexhavenIsle x = Due.full(6);
+        x.begin(2, 10);
+        x.house(1, 1, 0);
+        Due.due(0, () -> x.way(0));
+        Due.due(1, () -> x.road(1, 1, 0));
+        Due.put(x, 3, 1, 0);
+        x.house(3, 3, 0);
+        Due.due(1, () -> x.way(1));
+        Due.due(1, () -> x.road(3, 3, 0));
+        Due.due(2, () -> x.house(1, 1, 2));
+        Due.due(2, () -> x.road(1, 1, 1));
+        Due.due(2, () -> x.way(0));
+        Due.due(1, () -> x.way(1));
+        Due.due(-1, () -> x.title('w'));
+        Due.due(true, x::isTrue);
+    }
+
+    /** A card of points is no point that is seen: not by houses and towns, nor with titles. */
+    private static void seenPoints() {
+        HexhavenIsle x = Stages.rich(10, 8);
+        TurnTest.buyAt(x, 25, 14);
+        TurnTest.buyAt(x, 24, 14);
+        x.road(1, 1, 1);
+        Due.due(3, () -> x.house(1, 1, 2));
+        Stages.hand(x, 10023);
+        Due.due(4, () -> x.town(1, 1, 0));
+        Due.due(4, () -> x.points(0, true));
+        Due.due(6, () -> x.points(0, false));
+        Stages.hand(x, 33000);
+        roads(x, "112", "113", "114");
+        Due.due(6, () -> x.points(0, true));
+        Due.due(8, () -> x.points(0, false));
+        Due.due(2, () -> x.points(1, false));
+    }
 
     /** 4 roads bring no title, 5 do, as many as those not, and one more does. */
     private static void waysFromFourToSix() {
