@@ -194,7 +194,7 @@ public final class MissingTest {
         return -1;
     }
 
-    private static int roadAnywhere(HexhavenIsle x) {
+    static int roadAnywhere(HexhavenIsle x) {
         int side = anySide(x);
         return x.road(side % 5, side / 5 % 5, side / 25);
     }
@@ -345,7 +345,7 @@ public final class MissingTest {
         return false;
     }
 
-    private static boolean isApart(HexhavenIsle x, int point) {
+    static boolean isApart(HexhavenIsle x, int point) {
         for (int i = 0; i < 150; i++) {
             int other = PlainIsle.point(i % 5, i / 5 % 5, i / 25);
             boolean isNear = other == point || PlainIsle.isNear(other, point);
@@ -450,7 +450,7 @@ public final class MissingTest {
         return -1;
     }
 
-    private static boolean isRoadEnd(HexhavenIsle x, int player, int point) {
+    static boolean isRoadEnd(HexhavenIsle x, int player, int point) {
         for (int i = 0; i < 150; i++) {
             if (x.roadAt(i % 5, i / 5 % 5, i / 25) == player
                     && PlainIsle.pair(i % 5, i / 5 % 5, i / 25).contains(point)) {
@@ -460,7 +460,7 @@ public final class MissingTest {
         return false;
     }
 
-    private static boolean mayBegin(HexhavenIsle x, int player, int point) {
+    static boolean mayBegin(HexhavenIsle x, int player, int point) {
         int built = at(x, point);
         return built >= 0 ? built % 10 == player : isRoadEnd(x, player, point);
     }

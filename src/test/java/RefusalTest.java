@@ -120,9 +120,9 @@ public final class RefusalTest {
     }
 
     /** How many players there are: none ahead of games. */
-    private static int count(HexhavenIsle x) {
+    static int count(HexhavenIsle x) {
         int count = 0;
-        while (!(Twin.answer(x, goodsOf(count)) instanceof Class)) {
+        while (count < 9 && !(Twin.answer(x, goodsOf(count)) instanceof Class)) {
             count++;
         }
         return count;

@@ -1,6 +1,8 @@
 import java.util.ArrayList;
 import java.util.List;
+import java.util.Map;
 import java.util.Set;
+import java.util.function.Supplier;
 
 /** The sentences of 'Terms' of places, the beginning, dice, the thief, cards and trading, at their edges. */
 public final class TermsTest {
@@ -16,11 +18,13 @@ public final class TermsTest {
         numbersWithoutMeaning();
         bankAtTheBeginning();
         thiefAtFirst();
+        mayInEveryPhase();
         orderOfPlayers();
         secondHouses();
         enoughCorners();
         nextOfZ();
         landsOfAllSums();
+        landsOfAllPlaces();
         losersOfFour();
         cornersOfALand();
         bankHasEnoughForAll();
@@ -231,6 +235,38 @@ public final class TermsTest {
         }
     }
 
+    /** A house needs an own road in each phase but 'h', a road begins as else in each of them. */
+    private static void mayInEveryPhase() {
+        for (Map.Entry<String, Supplier<HexhavenIsle>> stage : Stages.all().entrySet()) {
+            HexhavenIsle x = stage.getValue().get();
+            // of these islands one has sea at the last place, and the others have none
+            int sea = x.landShare() == 1f ? -1 : 24;
+            for (int i = 0; i < 150 * RefusalTest.count(x); i++) {
+                int spot = i % 150;
+                int player = i / 150;
+                boolean isHouse = isLandAtPoint(point(spot), sea) && MissingTest.isApart(x, point(spot))
+                        && (x.phase() == 'h' || MissingTest.isRoadEnd(x, player, point(spot)));
+                boolean isRoad = isLandAtSide(spot, sea) && x.roadAt(column(spot), row(spot), corner(spot)) == -1
+                        && pair(spot).stream().anyMatch(point -> MissingTest.mayBegin(x, player, point));
+                Due.due(isHouse, () -> x.mayHouse(player, column(spot), row(spot), corner(spot)));
+                Due.due(isRoad, () -> x.mayRoad(player, column(spot), row(spot), corner(spot)));
+            }
+        }
+    }
+
+    private static boolean isLandAtPoint(int point, int sea) {
+        return PlainIsle.placesAtPoint(point).stream().anyMatch(place -> place[0] + 5 * place[1] != sea);
+    }
+
+    private static boolean isLandAtSide(int side, int sea) {
+        for (int i = 0; i < 150; i++) {
+            if (i / 6 != sea && pair(i).equals(pair(side))) {
+                return true;
+            }
+        }
+        return false;
+    }
+
     private static void orderOfPlayers() {
         int[][] orders = {{0, 1, 1, 0}, {0, 1, 2, 2, 1, 0}, {0, 1, 2, 3, 3, 2, 1, 0}};
         for (int[] order : orders) {
@@ -372,6 +408,34 @@ public final class TermsTest {
         }
     }
 
+    /** Each place gives, the first and the last one too, at each of its corners. */
+    private static void landsOfAllPlaces() {
+        for (int i = 0; i < 150; i++) {
+            int put = i;
+            int place = i / 6;
+            int desert = (place + 12) % 25;
+            HexhavenIsle x = new HexhavenIsle();
+            for (int k = 0; k < 25; k++) {
+                x.land(k % 5, k / 5, 'w', 12);
+            }
+            x.land(desert % 5, desert / 5, 'd', 0);
+            x.land(place % 5, place / 5, 'o', 6);
+            x.begin(2, 10);
+            Due.put(x, column(put), row(put), corner(put));
+            for (int k = 0; k < 3; k++) {
+                putFarFrom(x, point(i));
+            }
+            int own = x.has(0, 'o') + housesAt(x, 0, place);
+            int others = x.has(1, 'o') + housesAt(x, 1, place);
+            Due.due(true, () -> housesAt(x, 0, place) >= 1);
+            Due.due(5 * housesAt(x, 0, place), () -> x.expects(0, 'o'));
+            Due.due(5 * housesAt(x, 1, place), () -> x.expects(1, 'o'));
+            Due.roll(x, 6);
+            Due.due(own, () -> x.has(0, 'o'));
+            Due.due(others, () -> x.has(1, 'o'));
+        }
+    }
+
     /** By a 7 those of four with more than 7 goods lose, in any order, and others do not. */
     private static void losersOfFour() {
         int[][] orders = {{0, 1, 2, 3}, {3, 2, 1, 0}, {2, 0, 3, 1}};
@@ -393,11 +457,15 @@ public final class TermsTest {
             Due.due('t', x::phase);
             Due.due(0, x::turn);
         }
+        HexhavenIsle few = four(12);
+        Due.roll(few, 7);
+        Due.due('t', few::phase);
+        Due.due(Due.NOT_NOW, () -> few.lose(0, 0));
         // each one alone has more than 7
         for (int i = 0; i < 4; i++) {
             int loser = i;
             HexhavenIsle x = four(12);
-            while (x.turn() != loser) {
+            for (int k = 0; k < 4 && x.turn() != loser; k++) {
                 Due.pass(x, 3);
             }
             Due.roll(x, 3);
@@ -543,7 +611,7 @@ public final class TermsTest {
             Stages.grow(x, 10, 8);
             Stages.hand(x, 77773);
             Due.due(3, () -> x.town(1, 3, 0));
-            while (x.left('g') > 4) {
+            for (int i = 0; i < 9 && x.left('g') > 4; i++) {
                 x.end();
                 Due.pass(x, 6);
                 Due.roll(x, 3);
@@ -874,8 +942,14 @@ public final class TermsTest {
         x.town(1, 3, 0);
         for (char good : GOODS.toCharArray()) {
             Due.due(good == 'g' || good == 'o' ? 10 : 5, () -> x.expects(0, good));
-            // the bank may have none of it
             Due.due(5, () -> x.expects(1, good));
+            // the bank may have none of it
+            HexhavenIsle y = Stages.rich(10, 8);
+            Stages.hand(y, 88844);
+            bring(y, good, 0);
+            Due.due(0, () -> y.left(good));
+            Due.due(5, () -> y.expects(0, good));
+            Due.due(5, () -> y.expects(1, good));
         }
     }
 

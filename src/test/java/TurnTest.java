@@ -579,7 +579,7 @@ public final class TurnTest {
                 break;
             }
         }
-        while (y.turn() != 0) {
+        for (int i = 0; i < 4 && y.turn() != 0; i++) {
             Due.pass(y, 3);
         }
         Due.roll(y, 3);

@@ -37,7 +37,7 @@ final class Twin {
 
     void playsOnAlike() {
         Due.due(before, () -> told(touched));
-        Due.due(playOn(other), () -> playOn(touched));
+        Due.due(playOn(other) + told(other), () -> playOn(touched) + told(touched));
     }
 
     /** Calls that are refused of an object made so, each one with the same exception. */
@@ -70,6 +70,16 @@ final class Twin {
     // ---- all that can be asked
 
     static String told(HexhavenIsle x) {
+        StringBuilder told = new StringBuilder(toldOfGame(x));
+        for (int i = 0; i < 4; i++) {
+            int player = i;
+            tell(told, x, y -> y.rating(player));
+        }
+        return told.toString();
+    }
+
+    /** All but the ratings, which go on from game to game. */
+    static String toldOfGame(HexhavenIsle x) {
         StringBuilder told = new StringBuilder();
         tell(told, x, HexhavenIsle::phase);
         tell(told, x, HexhavenIsle::turn);
@@ -97,7 +107,6 @@ final class Twin {
     }
 
     private static void tellPlayer(StringBuilder told, HexhavenIsle x, int player) {
-        tell(told, x, y -> y.rating(player));
         tell(told, x, y -> y.goods(player));
         tell(told, x, y -> y.way(player));
         tell(told, x, y -> y.points(player, true));
@@ -125,7 +134,7 @@ final class Twin {
 
     // ---- what comes then
 
-    private static String playOn(HexhavenIsle x) {
+    static String playOn(HexhavenIsle x) {
         StringBuilder told = new StringBuilder();
         for (int step = 0; step < STEPS; step++) {
             switch (x.phase()) {
@@ -138,7 +147,7 @@ final class Twin {
                 default -> beginAnew(told, x);
             }
         }
-        return told.append(told(x)).toString();
+        return told.append(toldOfGame(x)).toString();
     }
 
     private static void beginAnew(StringBuilder told, HexhavenIsle x) {

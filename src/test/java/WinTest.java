@@ -13,11 +13,13 @@ public final class WinTest {
         wayOfTwoOthers();
         wayRoundToAHouse();
         knightsOfThree();
+        bothTitles();
         goals();
         goalByTitles();
         noWinInTurnsOfOthers();
         ratingsOfGames();
         ratingsOfThoseWhoPlay();
+        ratingsAtTheirEnds();
         sums();
         Due.finish();
     }
@@ -133,10 +135,15 @@ public final class WinTest {
             Due.due(one[3] == 1 ? 4 : 2, () -> x.points(1, true));
             Due.due(true, x::isTrue);
             // nor does the way grow together again by a town
-            Stages.hand(x, 23);
+            Stages.hand(x, 11023);
             x.town(2, 3, 0);
             Due.due(one[4], () -> x.way(1));
             Due.due(one[3], () -> x.title('w'));
+            Due.due(true, x::isTrue);
+            // by a road all ways are looked at anew
+            x.road(1, 3, 1);
+            Due.due(one[4], () -> x.way(1));
+            Due.due(true, x::isTrue);
         }
         // who gets the longest alone behind that has it, of 5 or more
         HexhavenIsle x = meeting(4, 5);
@@ -278,6 +285,30 @@ public final class WinTest {
             Due.due(true, x::isTrue);
             x.end();
         }
+    }
+
+    /** Each of both titles is worth 2. */
+    private static void bothTitles() {
+        HexhavenIsle x = Stages.rich(10, 8);
+        Stages.hand(x, 44433);
+        roads(x, "111", "112", "113", "114");
+        Due.due(4, () -> x.points(0, true));
+        for (int i = 0; i < 3; i++) {
+            TurnTest.buyAt(x, 25 - i, 0);
+        }
+        for (int i = 1; i <= 3; i++) {
+            int count = i;
+            x.end();
+            Due.pass(x, 3);
+            Due.roll(x, 3);
+            Due.due(count, () -> x.play('k', 'w', 'w'));
+            x.thief(count % 2 * 4, count % 2 * 4, -1);
+            Due.due(count < 3 ? 4 : 6, () -> x.points(0, true));
+            Due.due(count < 3 ? 4 : 6, () -> x.points(0, false));
+        }
+        Due.due(0, () -> x.title('w'));
+        Due.due(0, () -> x.title('k'));
+        Due.due(true, x::isTrue);
     }
 
     // ---- goals
@@ -477,6 +508,46 @@ public final class WinTest {
         }
     }
 
+    /** 1 at least is given, and 31 at most: in 22 games of four, within 512 calls. */
+    private static void ratingsAtTheirEnds() {
+        HexhavenIsle x = new HexhavenIsle();
+        x.land(1, 1, 's', 12);
+        x.land(2, 1, 'g', 12);
+        x.land(2, 2, 'o', 12);
+        x.land(1, 2, 'w', 12);
+        for (int game = 0; game < 20; game++) {
+            quickWinOfFour(x, 0);
+        }
+        // 400 above the others, and 16 less a twenty-fifth of that were none
+        rated(x, 1800, 1400, 1400, 1400);
+        quickWinOfFour(x, 0);
+        rated(x, 1803, 1399, 1399, 1399);
+        // 404 above the winner, and 16 more than a twenty-fifth of that were 32
+        quickWinOfFour(x, 1);
+        rated(x, 1772, 1462, 1383, 1383);
+    }
+
+    private static void quickWinOfFour(HexhavenIsle x, int winner) {
+        String[] corners = {"110", "114", "210", "212", "222", "224", winner == 0 ? "124" : "112",
+            winner == 0 ? "112" : "124"};
+        x.begin(4, 3);
+        for (String c : corners) {
+            Due.put(x, c.charAt(0) - '0', c.charAt(1) - '0', c.charAt(2) - '0');
+        }
+        if (winner == 1) {
+            Due.pass(x, 3);
+        }
+        Due.roll(x, 3);
+        TurnTest.buyAt(x, 25, 14);
+    }
+
+    private static void rated(HexhavenIsle x, int... ratings) {
+        for (int i = 0; i < 4; i++) {
+            int player = i;
+            Due.due(ratings[player], () -> x.rating(player));
+        }
+    }
+
     // ---- sums
 
     private static void sums() {
@@ -486,7 +557,7 @@ public final class WinTest {
             int players = 0;
             long sum = 7;
             int points = 0;
-            while (Twin.answer(x, y -> y.goods(0)) instanceof Integer && isPlayer(x, players)) {
+            while (players < 9 && isPlayer(x, players)) {
                 int player = players++;
                 points += x.points(player, false);
                 sum = 31 * sum + x.points(player, false);
