@@ -27,6 +27,7 @@ public final class AdviceTest {
         }
         desertsAlone();
         unlikeGoods();
+        goodsOfAllHouses();
         Due.finish();
     }
 
@@ -202,6 +203,33 @@ public final class AdviceTest {
             Due.put(y, 4, 0, 1);
             // both are got, so that the first corner with most pips is advised
             Due.due(0, () -> y.advise('n'));
+        }
+    }
+
+    /** What any house or town gets is not worth 10 for 'n': of the first house, of the second one, of towns of both. */
+    private static void goodsOfAllHouses() {
+        for (int towns = 0; towns < 4; towns++) {
+            for (boolean isSecond : new boolean[] {false, true}) {
+                HexhavenIsle y = Due.full(12);
+                Stages.richLands(y);
+                // the corner 2 of (1, 1) has 6 pips, or 8, with wood alone, that of (1, 3) has 7 with grain alone
+                y.land(2, 1, 'w', isSecond ? 4 : 12);
+                y.land(2, 4, 'g', 12);
+                Stages.grow(y, 10, 8);
+                Stages.hand(y, 55544);
+                y.road(1, 1, 1);
+                y.road(1, 3, 1);
+                for (int i = 0; i < 2; i++) {
+                    int row = 1 + 2 * i;
+                    if ((towns >> i & 1) == 1) {
+                        Stages.hand(y, 10023);
+                        Due.due(true, () -> y.town(1, row, 0) >= 3);
+                    }
+                }
+                for (char kind : "pvn".toCharArray()) {
+                    Due.due(isSecond ? 112 : 132, () -> y.advise(kind));
+                }
+            }
         }
     }
 }

@@ -30,6 +30,7 @@ public final class TermsTest {
         bankHasEnoughForAll();
         bankGivesOneWhatThereIs();
         robbedGoods();
+        robbedGoodsOfTheSecond();
         pileOfCards();
         plenty();
         monopolyOfFour();
@@ -670,6 +671,27 @@ public final class TermsTest {
                 Due.due((int) Due.next(z), () -> x.seed(1));
                 Due.due(hand - Stages.one(order.charAt(place)), () -> Stages.held(x, 0));
                 Due.due(others + 1, () -> x.has(1, order.charAt(place)));
+            }
+        }
+    }
+
+    /** The goods of the robber, ahead of those of the other one, are no matter. */
+    private static void robbedGoodsOfTheSecond() {
+        for (int hand : new int[] {11111, 1, 40000, 5, 21112}) {
+            for (int i = 0; i < 8; i++) {
+                HexhavenIsle x = Stages.rich(10, 3);
+                Stages.hand(x, hand);
+                x.end();
+                Due.roll(x, 7);
+                Due.due(0, x::turn);
+                MissingTest.loseAll(x, 2);
+                StringBuilder order = new StringBuilder();
+                for (char good : GOODS.toCharArray()) {
+                    order.append(("" + good).repeat(x.has(1, good)));
+                }
+                int place = i % order.length();
+                Due.pick(x, order.length(), place);
+                Due.due(order.charAt(place), () -> x.thief(3, 1, 1));
             }
         }
     }

@@ -191,7 +191,7 @@ public final class WayTest {
 
     /** Fifteen roads here and there. */
     private static void grown() {
-        for (int island = 0; island < 30; island++) {
+        for (int island = 0; island < 150; island++) {
             HexhavenIsle x = Stages.rich(10, 8);
             long z = 7 + island;
             for (int i = 0; i < 13; i++) {
