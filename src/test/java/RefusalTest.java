@@ -38,6 +38,7 @@ public final class RefusalTest {
         }
         everyLetter();
         digitsOfOffers();
+        goalsThatStay();
         insideOfRanges();
         Due.finish();
     }
@@ -247,6 +248,10 @@ public final class RefusalTest {
         phase(make, twin, "-o", x -> x.land(2, 2, 'd', 7));
         phase(make, twin, "-o", x -> x.harbour(0, 0, 0, '?'));
         phase(make, twin, "-o", x -> x.harbour(4, 4, 5, '-'));
+        for (int i = 0; i < 150; i++) {
+            int k = i;
+            phase(make, twin, "-o", x -> x.harbour(k % 5, k / 5 % 5, k / 25, "?wbsgo-".charAt(k % 7)));
+        }
         phase(make, twin, "-o", x -> x.begin(2, 3));
         phase(make, twin, "-o", x -> x.begin(4, 10));
         phase(make, twin, "hwrltao", HexhavenIsle::turn);
@@ -363,6 +368,26 @@ public final class RefusalTest {
                     Due.due(false, () -> make.get().offer(give, 9 * want));
                     Due.due(false, () -> make.get().offer(2 * give, 99999 - 9 * give));
                 }
+            }
+        }
+    }
+
+    /** A game that is not begun leaves the goal, and how many players there are, of the one that goes on. */
+    private static void goalsThatStay() {
+        for (int goal = 3; goal <= 4; goal++) {
+            for (int i = 0; i < 6; i++) {
+                int players = new int[] {2, 2, 4, 2, 1, 5}[i];
+                int told = new int[] {10, 3, 4, 11, 3, 10}[i];
+                HexhavenIsle x = Stages.rich(goal, 8);
+                Due.due(i < 3 ? Due.NOT_NOW : Due.BAD, () -> x.begin(players, told));
+                TurnTest.buyAt(x, 25, 14);
+                Due.due(goal == 3 ? 'o' : 'a', x::phase);
+                if (goal == 4) {
+                    TurnTest.buyAt(x, 24, 14);
+                    Due.due('o', x::phase);
+                }
+                Due.due(2, () -> count(x));
+                Due.due(1516, () -> x.rating(0));
             }
         }
     }
